@@ -52,7 +52,7 @@ public final class NameForge {
         shape = new Shape(program);
         naming = new Naming(program, shape);
         known = new Known(program, shape, naming);
-        needed = new Needed(program, shape, naming, known);
+        needed = new Needed(program, naming, known);
         machine = new Machine(program, naming, known, needed);
         built = false;
     }
@@ -623,7 +623,7 @@ public final class NameForge {
 
         private void passPhi(int block, int v) {
             for (int b = 0; b < program.blocks; b++) {
-                if (holds(shape.before[block], b) && isWayTaken(b, block)) {
+                if (isWayTaken(b, block)) {
                     int from = naming.atEnd[b][v];
                     raise(naming.phiName[block][v], state[from], number[from]);
                 }
@@ -685,16 +685,14 @@ public final class NameForge {
     /** Which names are needed. */
     private static final class Needed {
         private final Program program;
-        private final Shape shape;
         private final Naming naming;
         private final Known known;
         final boolean[] isNeeded = new boolean[MOST_NAMES];
         private final int[] list = new int[MOST_NAMES];
         private int listed;
 
-        Needed(Program program, Shape shape, Naming naming, Known known) {
+        Needed(Program program, Naming naming, Known known) {
             this.program = program;
-            this.shape = shape;
             this.naming = naming;
             this.known = known;
         }
@@ -748,7 +746,7 @@ public final class NameForge {
 
         private void needPartsOfPhi(int block, int v) {
             for (int b = 0; b < program.blocks; b++) {
-                if (holds(shape.before[block], b) && known.isWayTaken(b, block)) {
+                if (known.isWayTaken(b, block)) {
                     need(naming.atEnd[b][v]);
                 }
             }

@@ -7,6 +7,7 @@ public final class OracleTest {
     /** What a forge answers where the document asks for a NoSuchElementException. */
     private static final long THROWS = Long.MIN_VALUE;
     private static long seed = 20261115;
+    private static Oracle before = null;
 
     private static int numbersSeen;
     private static int anysSeen;
@@ -24,6 +25,7 @@ public final class OracleTest {
             compareUses(id, oracle);
             compareNames(id, oracle);
             compareRuns(id, oracle);
+            before = oracle;
         }
         Check.holds("the programs are of many kinds", numbersSeen > 500 && anysSeen > 500
             && nothingsSeen > 500 && unneededSeen > 500 && shorterSeen > 500);
@@ -84,9 +86,23 @@ public final class OracleTest {
         return pick(3) > 0 && b + 1 < blocks ? b + 1 + pick(Math.min(3, blocks - b - 1)) : 1 + pick(blocks - 1);
     }
 
-    /** A forge with the program built: each set of questions has its own, within 512 calls. */
+    /**
+     * A forge with the program built. Each set of questions has its own, within 512 calls, and it
+     * has had another program before, of which nothing may be left.
+     */
     private static NameForge forge(Oracle oracle) {
         NameForge forge = new NameForge();
+        if (before != null) {
+            write(forge, before);
+            forge.run(false, 50);
+            forge.clear();
+            forge.take();
+        }
+        write(forge, oracle);
+        return forge;
+    }
+
+    private static void write(NameForge forge, Oracle oracle) {
         for (int b = 0; b < oracle.blocks.size(); b++) {
             forge.block();
         }
@@ -105,7 +121,6 @@ public final class OracleTest {
             forge.give(v);
         }
         Check.same("build()", forge.build(), oracle.names.size());
-        return forge;
     }
 
     private static void compareLook(String id, Oracle o) {
