@@ -9,6 +9,9 @@ final class Made {
     static final int ASK = 6;
     static final int TELL = 7;
 
+    /** The two kinds of runs: as it is written, and as it has become. */
+    static final boolean[] BOTH = {true, false};
+
     private Made() {
     }
 
@@ -51,6 +54,29 @@ final class Made {
         forge.put(1, COPY, 2, 0, 0);
         forge.put(1, COPY, 0, 1, 0);
         forge.put(1, COPY, 1, 2, 0);
+        forge.go(1, 1);
+        forge.build();
+        return forge;
+    }
+
+    /** Asks and tells for ever, one number a block, after one empty block. */
+    static NameForge echo() {
+        NameForge forge = blocks(2);
+        forge.go(0, 1);
+        forge.put(1, ASK, 0, 0, 0);
+        forge.put(1, TELL, 0, 0, 0);
+        forge.go(1, 1);
+        forge.build();
+        return forge;
+    }
+
+    /** Tells 1, 2, 3, .., each in a block of its own, after one block that tells nothing. */
+    static NameForge counter() {
+        NameForge forge = blocks(2);
+        forge.put(0, SET, 1, 1, 0);
+        forge.go(0, 1);
+        forge.put(1, ADD, 0, 0, 1);
+        forge.put(1, TELL, 0, 0, 0);
         forge.go(1, 1);
         forge.build();
         return forge;

@@ -12,6 +12,9 @@ public final class NamesTest {
         promise8CountsNames();
         promise8MostNames();
         promise8BuiltAgain();
+        promise8NoPhisOfBefore();
+        promise8NoNumbersOfBefore();
+        promise8NoNeedsOfBefore();
         promise9Look();
         promise9Parents();
         promise9WrongInputs();
@@ -390,6 +393,55 @@ public final class NamesTest {
         forge.build();
         Check.same("name 2 is needed no more", forge.name(2, 2), 0);
         value(forge, "ASK", 6, ANY, 0);
+    }
+
+    /** The same blocks and ENDs as before, but nothing is set in them. */
+    private static void promise8NoPhisOfBefore() {
+        NameForge forge = Made.diamond(4, 5);
+        forge.clear();
+        for (int b = 0; b < 4; b++) {
+            forge.block();
+        }
+        forge.fork(0, 0, 1, 2);
+        forge.go(1, 3);
+        forge.go(2, 3);
+        Check.same("build()", forge.build(), 6);
+        Check.same("phis of 3", forge.look(3, 2), 0);
+        Check.fails("no phi of 3", NO_SUCH, () -> forge.phi(3, 0, -1));
+        Check.fails("no instruction of 3", NO_SUCH, () -> forge.uses(3, 0, 1));
+        Check.fails("no name 6", NO_SUCH, () -> forge.name(6, 0));
+    }
+
+    private static void promise8NoNumbersOfBefore() {
+        NameForge forge = Made.blocks(3);
+        forge.put(0, Made.SET, 0, 1, 0);
+        forge.fork(0, 0, 1, 2);
+        forge.put(1, Made.SET, 1, 9, 0);
+        forge.put(2, Made.SET, 2, 8, 0);
+        forge.build();
+        value(forge, "come to", 7, NUMBER, 9);
+        value(forge, "not come to", 8, NOTHING, 0);
+        forge.fork(0, 0, 2, 1);
+        forge.build();
+        value(forge, "no more come to", 7, NOTHING, 0);
+        value(forge, "now come to", 8, NUMBER, 8);
+    }
+
+    private static void promise8NoNeedsOfBefore() {
+        NameForge forge = Made.blocks(1);
+        for (int v = 0; v < 6; v++) {
+            forge.put(0, Made.TELL, 0, v, 0);
+        }
+        forge.build();
+        for (int v = 0; v < 6; v++) {
+            Check.same("needed by a TELL", forge.name(v, 2), 1);
+        }
+        forge.clear();
+        forge.block();
+        forge.build();
+        for (int v = 0; v < 6; v++) {
+            Check.same("needed no more", forge.name(v, 2), 0);
+        }
     }
 
     /** v0 stays 1 round the loop, but only for one who does not believe otherwise at first. */

@@ -5,7 +5,6 @@ public final class RunTest {
     private static final Class<IllegalArgumentException> ARGUMENT = IllegalArgumentException.class;
     private static final Class<IllegalStateException> STATE = IllegalStateException.class;
     private static final Class<NoSuchElementException> NO_SUCH = NoSuchElementException.class;
-    private static final boolean[] BOTH = {true, false};
 
     public static void main(String[] args) {
         promise13Give();
@@ -17,28 +16,18 @@ public final class RunTest {
         promise15BeginsAnew();
         promise15WrongInputs();
         promise16And17KeptAndLost();
+        promise16Most();
         promise18Spent();
         Check.end();
     }
 
-    /** Asks and tells for ever, one number a block, after one empty block. */
-    private static NameForge echo() {
-        NameForge forge = Made.blocks(2);
-        forge.go(0, 1);
-        forge.put(1, Made.ASK, 0, 0, 0);
-        forge.put(1, Made.TELL, 0, 0, 0);
-        forge.go(1, 1);
-        forge.build();
-        return forge;
-    }
-
     private static void promise13Give() {
-        NameForge forge = echo();
+        NameForge forge = Made.echo();
         for (int v = 0; v < 16; v++) {
             Check.holds("give()", forge.give(v == 0 ? Integer.MIN_VALUE : 100 + v));
         }
         Check.holds("a seventeenth is refused", !forge.give(5));
-        for (boolean plain : BOTH) {
+        for (boolean plain : Made.BOTH) {
             forge.run(plain, 19);
             Check.same("told", forge.told(), 18);
             Check.same("heard(0)", forge.heard(0), Integer.MIN_VALUE);
@@ -52,7 +41,7 @@ public final class RunTest {
     }
 
     private static void promise14Take() {
-        NameForge forge = echo();
+        NameForge forge = Made.echo();
         forge.take();
         for (int v = 0; v < 16; v++) {
             forge.give(v + 1);
@@ -72,7 +61,7 @@ public final class RunTest {
 
     private static void promise15Steps() {
         NameForge forge = Made.diamond(4, 5);
-        for (boolean plain : BOTH) {
+        for (boolean plain : Made.BOTH) {
             for (int steps = 0; steps < 3; steps++) {
                 Check.same("run with " + steps, forge.run(plain, steps), 1);
                 Check.same("blocks", forge.spent(0), steps);
@@ -96,7 +85,7 @@ public final class RunTest {
         NameForge forge = Made.swap();
         forge.give(3);
         forge.give(4);
-        for (boolean plain : BOTH) {
+        for (boolean plain : Made.BOTH) {
             forge.run(plain, 4);
             int[] due = {3, 4, 4, 3, 3, 4};
             Check.same("told", forge.told(), due.length);
@@ -180,7 +169,7 @@ public final class RunTest {
     private static void promise15WrongInputs() {
         NameForge forge = Made.blocks(1);
         forge.put(0, Made.TELL, 0, 0, 0);
-        for (boolean plain : BOTH) {
+        for (boolean plain : Made.BOTH) {
             Check.fails("not built", STATE, () -> forge.run(plain, 0));
             for (int steps : new int[] {-1, 201, Integer.MIN_VALUE, Integer.MAX_VALUE}) {
                 Check.fails("steps " + steps + " come first", ARGUMENT, () -> forge.run(plain, steps));
@@ -197,23 +186,11 @@ public final class RunTest {
         Check.fails("and what was told before is not kept", NO_SUCH, () -> forge.heard(0));
     }
 
-    /** Tells 1, 2, 3, .., each in a block of its own. */
-    private static NameForge counter() {
-        NameForge forge = Made.blocks(2);
-        forge.put(0, Made.SET, 1, 1, 0);
-        forge.go(0, 1);
-        forge.put(1, Made.ADD, 0, 0, 1);
-        forge.put(1, Made.TELL, 0, 0, 0);
-        forge.go(1, 1);
-        forge.build();
-        return forge;
-    }
-
     private static void promise16And17KeptAndLost() {
-        NameForge forge = counter();
+        NameForge forge = Made.counter();
         Check.same("told before", forge.told(), 0);
         Check.fails("heard before", NO_SUCH, () -> forge.heard(0));
-        for (boolean plain : BOTH) {
+        for (boolean plain : Made.BOTH) {
             for (int tells : new int[] {39, 40, 41, 199}) {
                 forge.run(plain, tells + 1);
                 Check.same("told", forge.told(), tells);
@@ -231,8 +208,28 @@ public final class RunTest {
         Check.same("heard when not built", forge.heard(39), 40);
     }
 
+    /** "(all of them ..)": 200 blocks of six are the most that can be told. */
+    private static void promise16Most() {
+        NameForge forge = Made.blocks(2);
+        for (int i = 0; i < 6; i++) {
+            forge.put(0, Made.TELL, 0, i, 0);
+            forge.put(1, Made.TELL, 0, i, 0);
+        }
+        forge.go(0, 1);
+        forge.go(1, 1);
+        forge.build();
+        for (boolean plain : Made.BOTH) {
+            Check.same("run", forge.run(plain, 200), 1);
+            Check.same("told", forge.told(), 1200);
+            Check.same("done", forge.spent(1), 1200);
+            Check.same("the last that is kept", forge.heard(39), 0);
+            Check.fails("the first that is lost", NO_SUCH, () -> forge.heard(40));
+            Check.fails("the last that is lost", NO_SUCH, () -> forge.heard(1199));
+        }
+    }
+
     private static void promise18Spent() {
-        NameForge forge = echo();
+        NameForge forge = Made.echo();
         for (int what : new int[] {-1, 3, Integer.MIN_VALUE, Integer.MAX_VALUE}) {
             Check.same("spent(" + what + ")", forge.spent(what), -1);
         }
@@ -241,7 +238,7 @@ public final class RunTest {
         }
         forge.give(1);
         forge.give(0);
-        for (boolean plain : BOTH) {
+        for (boolean plain : Made.BOTH) {
             forge.run(plain, 2);
             Check.same("blocks", forge.spent(0), 2);
             Check.same("done", forge.spent(1), 2);

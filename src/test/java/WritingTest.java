@@ -205,12 +205,12 @@ public final class WritingTest {
         forge.put(1, Made.TELL, 0, 5, 0);
         forge.build();
         forge.give(-3);
-        for (boolean plain : new boolean[] {true, false}) {
+        for (boolean plain : Made.BOTH) {
             forge.run(plain, 9);
             Check.same("not 0 goes to t", forge.told(), 1);
         }
         forge.take();
-        for (boolean plain : new boolean[] {true, false}) {
+        for (boolean plain : Made.BOTH) {
             forge.run(plain, 9);
             Check.same("0 goes to u", forge.told(), 0);
         }
