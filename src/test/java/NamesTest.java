@@ -15,6 +15,7 @@ public final class NamesTest {
         promise8NoPhisOfBefore();
         promise8NoNumbersOfBefore();
         promise8NoNeedsOfBefore();
+        promise8NoPartsOfBefore();
         promise9Look();
         promise9Parents();
         promise9WrongInputs();
@@ -441,6 +442,29 @@ public final class NamesTest {
         forge.build();
         for (int v = 0; v < 6; v++) {
             Check.same("needed no more", forge.name(v, 2), 0);
+        }
+    }
+
+    /** Name 8 was told before; now it is a COPY that nobody needs, and so is 7, of which it is made. */
+    private static void promise8NoPartsOfBefore() {
+        for (int first : new int[] {0, 2}) {
+            NameForge forge = Made.blocks(1);
+            for (int v = 0; v < 3; v++) {
+                forge.put(0, Made.SET, v, 1, 0);
+            }
+            forge.put(0, Made.TELL, 0, first, 0);
+            forge.put(0, Made.TELL, 0, 2 - first, 0);
+            forge.build();
+            Check.same("8 is told", forge.name(8, 2), 1);
+            forge.clear();
+            forge.block();
+            forge.put(0, Made.ASK, 0, 0, 0);
+            forge.put(0, Made.COPY, 1, 0, 0);
+            forge.put(0, Made.COPY, 2, 1, 0);
+            forge.build();
+            for (int n = 0; n < 9; n++) {
+                Check.same("name " + n + " is needed", forge.name(n, 2), n == 6 ? 1 : 0);
+            }
         }
     }
 

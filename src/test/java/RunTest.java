@@ -10,6 +10,7 @@ public final class RunTest {
         promise13Give();
         promise14Take();
         promise15Steps();
+        promise15TwoHundredBlocks();
         promise15PhisAllAtOnce();
         promise15LeavesOut();
         promise15FollowsNumbers();
@@ -78,6 +79,28 @@ public final class RunTest {
             NameForge one = Made.built(1);
             Check.same("one block, none allowed", one.run(plain, 0), 1);
             Check.same("one block", one.run(plain, 1), 0);
+        }
+    }
+
+    /** "1 when a block more would have been one too many": a program of 200 blocks stops, of 201 not. */
+    private static void promise15TwoHundredBlocks() {
+        for (int turns : new int[] {1, 197, 198, 199}) {
+            NameForge forge = Made.blocks(3);
+            forge.put(0, Made.SET, 1, turns, 0);
+            forge.put(0, Made.SET, 2, 1, 0);
+            forge.go(0, 1);
+            forge.put(1, Made.SUBTRACT, 1, 1, 2);
+            forge.fork(1, 1, 1, 2);
+            forge.put(2, Made.TELL, 0, 2, 0);
+            forge.build();
+            int blocks = turns + 2;
+            for (boolean plain : Made.BOTH) {
+                Check.same(blocks + " blocks, 200 steps", forge.run(plain, 200), blocks <= 200 ? 0 : 1);
+                Check.same(blocks + " blocks: spent", forge.spent(0), Math.min(blocks, 200));
+                Check.same(blocks + " blocks: told", forge.told(), blocks <= 200 ? 1 : 0);
+                Check.same("one step less than blocks", forge.run(plain, blocks - 1), 1);
+                Check.same("one step less: spent", forge.spent(0), blocks - 1);
+            }
         }
     }
 
