@@ -272,6 +272,9 @@ public final class NameForge {
 
     private static int calculate(int kind, int x, int y) {
         switch (kind) {
+            case SET:
+            case COPY:
+                return x;
             case ADD:
                 return x + y;
             case SUBTRACT:
@@ -281,7 +284,7 @@ public final class NameForge {
             case LESS:
                 return x < y ? 1 : 0;
             default:
-                return x;
+                return 0;
         }
     }
 

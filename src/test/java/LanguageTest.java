@@ -6,7 +6,9 @@ import java.nio.file.Files;
 import java.nio.file.Path;
 import java.util.ArrayList;
 import java.util.List;
+import java.util.Map;
 import java.util.Set;
+import java.util.TreeMap;
 import java.util.regex.Matcher;
 import java.util.regex.Pattern;
 
@@ -21,6 +23,9 @@ public final class LanguageTest {
         "IndexOutOfBoundsException", "ArithmeticException", "UnsupportedOperationException",
         "NoSuchElementException", "RuntimeException");
     private static final int MOST_LINES_OF_A_METHOD = 60;
+    private static final int DEEPEST_CALLS = 8;
+    /** What {@link #depth} answers for a method that comes to itself again. */
+    private static final int NO_END = 1000;
 
     public static void main(String[] args) throws IOException {
         // CI tells where the class stands; by hand the test is run from the project's root.
@@ -31,9 +36,12 @@ public final class LanguageTest {
         rule4Library(code);
         rule5StaticFields(code);
         rule6Exceptions(whole, code);
+        rule8And11Calls(code);
         rule9Loops(code);
+        rule10Texts(whole);
         rule11Sizes(code);
         rule12NoCallMakesObjects(code);
+        rule12Constructors(code);
         Check.end();
     }
 
@@ -93,6 +101,46 @@ public final class LanguageTest {
         none(code, "\\b(try|catch|finally|synchronized|assert|equals|hashCode|toString)\\b");
     }
 
+    /** The bodies of methods and constructors by their names; of one name all are taken together. */
+    private static Map<String, String> bodies(String code) {
+        Map<String, String> all = new TreeMap<>();
+        Matcher m = Pattern.compile("(?ms)^( {4}| {8})(?=\\w)[\\w\\[\\] ]*?(\\w+)\\([^(){};]*\\)[^(){};]*\\{(.*?)^\\1\\}")
+            .matcher(code);
+        while (m.find()) {
+            all.merge(m.group(2), m.group(3), String::concat);
+        }
+        return all;
+    }
+
+    private static void rule8And11Calls(String code) {
+        Map<String, String> bodies = bodies(code);
+        for (Class<?> c : classes()) {
+            for (Method m : c.getDeclaredMethods()) {
+                Check.holds(m.getName() + " is found in the text", bodies.containsKey(m.getName()));
+            }
+        }
+        for (String name : bodies.keySet()) {
+            Check.holds(name + " goes at most eight calls deep", depth(bodies, name, 1) <= DEEPEST_CALLS);
+        }
+    }
+
+    private static int depth(Map<String, String> bodies, String name, int above) {
+        if (above > NO_END) {
+            return NO_END;
+        }
+        int deepest = 0;
+        for (String called : Set.copyOf(found(bodies.get(name), "(\\w+)\\("))) {
+            if (bodies.containsKey(called) && deepest < NO_END) {
+                deepest = Math.max(deepest, depth(bodies, called, above + 1));
+            }
+        }
+        return Math.min(NO_END, deepest + 1);
+    }
+
+    private static void rule10Texts(String whole) {
+        none(whole, "\"\\s*\\+|\\+\\s*\"");
+    }
+
     private static void rule9Loops(String code) {
         none(code, "\\bwhile\\b");
         for (String head : found(code, "\\bfor \\(([^{]*)\\) \\{")) {
@@ -125,6 +173,16 @@ public final class LanguageTest {
                 || line.matches(" {8}(private )?final (int|boolean)\\[.* = new .*")
                 || line.matches(" {8}\\w+ = new [A-Z]\\w+\\([a-z, ]*\\);");
             Check.holds("no call makes an object:" + line, isFree);
+        }
+    }
+
+    private static void rule12Constructors(String code) {
+        Map<String, String> bodies = bodies(code);
+        for (Class<?> c : classes()) {
+            for (String line : bodies.getOrDefault(c.getSimpleName(), "").split("\n")) {
+                Check.holds(c.getSimpleName() + "() only keeps what it is given or makes:" + line, line.isBlank()
+                    || line.matches(" +(this\\.)?\\w+ = (\\w+|new [A-Z]\\w+\\([a-z, ]*\\));"));
+            }
         }
     }
 
